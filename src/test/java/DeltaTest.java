@@ -7,6 +7,7 @@ public final class DeltaTest {
         nothingBetween();
         referenceRows();
         highNumbers();
+        manySums();
         dearestDelta();
         alarms();
         sumAloneIsNotEnough();
@@ -114,6 +115,24 @@ public final class DeltaTest {
         Due.due("high number: same()", x.same(), true);
     }
 
+    // Blocks of many sums, told from the last to the first.
+    private static void manySums() {
+        int[] old = new int[1800];
+        int[] fresh = new int[1800];
+        for (int block = 0; block < 600; block++) {
+            for (int k = 0; k < 3; k++) {
+                old[3 * block + k] = k == 0 ? block & 255 : k == 1 ? 3 * (block >> 8) : 200 - k * block % 50;
+                fresh[3 * (599 - block) + k] = old[3 * block + k];
+            }
+        }
+        DeltaSync x = signed(3, 16, old, fresh);
+        Due.due("many sums: delta()", x.delta(), 2400);
+        dueCounts("many sums", x, 600, 0, 600, 0);
+        for (int row = 0; row < 600; row++) {
+            Due.due("many sums: block", 256 * x.at(2, 4 * row + 1) + x.at(2, 4 * row + 2), 599 - row);
+        }
+    }
+
     // The document's 6000 bytes bound push alone: a delta may be longer.
     private static void dearestDelta() {
         DeltaSync x = signed(1, 16, new int[] {1}, Due.repeated(1, 2000));
@@ -151,7 +170,7 @@ public final class DeltaTest {
 
     // Of digests only the first w bytes count: two blocks of one sum and one first byte pass for each other.
     private static void narrowDigests() {
-        int[][] pair = pairOfOneFirstByte();
+        int[][] pair = pairByFirstByte(true);
         DeltaSync x = signed(3, 1, pair[0], pair[1]);
         dueDelta("narrow", x, 1, 0, 0, 1);
         dueCounts("narrow", x, 1, 0, 1, 0, 1, 3, 1);
@@ -161,13 +180,18 @@ public final class DeltaTest {
         x = signed(3, 16, pair[0], pair[1]);
         dueDelta("wide", x, 0, 3, pair[1][0], pair[1][1], pair[1][2]);
         dueCounts("wide", x, 0, 3, 1, 1);
+        pair = pairByFirstByte(false);
+        x = signed(3, 1, pair[0], pair[1]);
+        dueDelta("other first byte", x, 0, 3, pair[1][0], pair[1][1], pair[1][2]);
+        dueCounts("other first byte", x, 0, 3, 1, 1);
     }
 
-    private static int[][] pairOfOneFirstByte() {
+    private static int[][] pairByFirstByte(boolean alike) {
         for (int i = 0; i < 200 * 200; i++) {
             int[] one = {i % 200, 100, i / 200};
             int[] other = {one[0] + 1, 98, one[2] + 1};
-            if (Due.md5(one)[0] == Due.md5(other)[0] && Due.md5(one)[1] != Due.md5(other)[1]) {
+            boolean first = Due.md5(one)[0] == Due.md5(other)[0];
+            if (first == alike && Due.md5(one)[1] != Due.md5(other)[1]) {
                 return new int[][] {one, other};
             }
         }

@@ -9,7 +9,8 @@ final class Model {
     private int width = 8;
     private int signedSize = 16;
     private int signedWidth = 8;
-    private List<List<Integer>> signed = new ArrayList<>();
+    private final List<Integer> signedSums = new ArrayList<>();
+    private final List<int[]> signedDigests = new ArrayList<>();
     private final int[] counts = new int[4];
 
     Model() {
@@ -44,22 +45,25 @@ final class Model {
     }
 
     int sign() {
-        signed = new ArrayList<>();
+        signedSums.clear();
+        signedDigests.clear();
         for (int k = 0; (k + 1) * size <= rows.get(0).size(); k++) {
-            signed.add(new ArrayList<>(rows.get(0).subList(k * size, (k + 1) * size)));
+            List<Integer> block = rows.get(0).subList(k * size, (k + 1) * size);
+            signedSums.add(sumOf(block));
+            signedDigests.add(digestOf(block));
         }
         signedSize = size;
         signedWidth = width;
-        return signed.size();
+        return signedSums.size();
     }
 
     int sum(int block) {
-        return block < 0 || block >= signed.size() ? 0 : sumOf(signed.get(block));
+        return block < 0 || block >= signedSums.size() ? 0 : signedSums.get(block);
     }
 
     int digest(int block, int k) {
-        boolean there = block >= 0 && block < signed.size() && k >= 0 && k < signedWidth;
-        return there ? digestOf(signed.get(block))[k] : -1;
+        boolean there = block >= 0 && block < signedSums.size() && k >= 0 && k < signedWidth;
+        return there ? signedDigests.get(block)[k] : -1;
     }
 
     int delta() {
@@ -110,12 +114,13 @@ final class Model {
     private int match(List<Integer> bytes, int last) {
         int[] digest = null;
         int best = -1;
-        for (int k = 0; k < signed.size(); k++) {
-            if (sumOf(signed.get(k)) != sumOf(bytes)) {
+        int sum = sumOf(bytes);
+        for (int k = 0; k < signedSums.size(); k++) {
+            if (signedSums.get(k) != sum) {
                 continue;
             }
-            digest = digestOf(bytes);
-            if (Arrays.equals(digest, 0, signedWidth, digestOf(signed.get(k)), 0, signedWidth)) {
+            digest = digest == null ? digestOf(bytes) : digest;
+            if (Arrays.equals(digest, 0, signedWidth, signedDigests.get(k), 0, signedWidth)) {
                 best = best < 0 || last >= 0 && k == last + 1 ? k : best;
             }
         }
@@ -185,7 +190,7 @@ final class Model {
     }
 
     int count(int what) {
-        int[] all = {counts[0], counts[1], counts[2], counts[3], signed.size(), signedSize, signedWidth};
+        int[] all = {counts[0], counts[1], counts[2], counts[3], signedSums.size(), signedSize, signedWidth};
         return what < 0 || what >= all.length ? -1 : all[what];
     }
 
