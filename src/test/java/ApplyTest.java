@@ -13,8 +13,8 @@ public final class ApplyTest {
         Due.end("ApplyTest");
     }
 
-    private static DeltaSync signed() {
-        DeltaSync x = new DeltaSync();
+    private static Counted signed() {
+        Counted x = new Counted();
         Due.file(x, 0, Due.bytes("abcdefg"));
         x.shape(2, 4);
         x.sign();
@@ -22,7 +22,7 @@ public final class ApplyTest {
     }
 
     private static void goodRows() {
-        DeltaSync x = signed();
+        Counted x = signed();
         Due.deltaOf(x, 1, 0, 1, 2, 0, 3, 0, 1, 2, 1, 0, 0, 3, 0, 1, 255);
         Due.due("good: apply()", x.apply(), 4 + 3 + 6 + 1);
         Due.dueBytes("good", x, 3, 'c', 'd', 'e', 'f', 0, 1, 2, 'a', 'b', 'c', 'd', 'e', 'f', 255);
@@ -42,7 +42,7 @@ public final class ApplyTest {
             {1, 0, 3, 1}, {1, 0, 0, 4}, {1, 0, 2, 2}, {1, 1, 0, 1}, {1, 255, 255, 255}
         };
         for (int[] row : bad) {
-            DeltaSync x = signed();
+            Counted x = signed();
             Due.deltaOf(x, row);
             Due.due("bad " + java.util.Arrays.toString(row), x.apply(), DeltaSync.BAD);
             Due.dueBytes("bad", x, 3);
@@ -52,7 +52,7 @@ public final class ApplyTest {
 
     // What the rows before a bad one made, and what an earlier apply made, is gone.
     private static void badEmpties() {
-        DeltaSync x = signed();
+        Counted x = signed();
         Due.deltaOf(x, 0, 2, 8, 9);
         Due.due("before: apply()", x.apply(), 2);
         x.push(2);
@@ -65,7 +65,7 @@ public final class ApplyTest {
     }
 
     private static void longResults() {
-        DeltaSync x = new DeltaSync();
+        Counted x = new Counted();
         Due.file(x, 0, Due.repeated(6, 250));
         x.shape(250, 1);
         x.sign();
@@ -101,7 +101,7 @@ public final class ApplyTest {
 
     // The old file's blocks of now, by the block size of the signature made last.
     private static void theOldFileOfNow() {
-        DeltaSync x = signed();
+        Counted x = signed();
         Due.deltaOf(x, 1, 0, 2, 1);
         x.put(0, 4, 'E');
         x.shape(1, 1);
@@ -119,7 +119,7 @@ public final class ApplyTest {
     }
 
     private static void changing() {
-        DeltaSync x = new DeltaSync();
+        Counted x = new Counted();
         Due.due("change of nothing", x.change(0, 0), false);
         Due.deltaOf(x, 0, 2, 8, 9);
         Due.due("change(2, 255)", x.change(2, 255), true);
@@ -138,7 +138,7 @@ public final class ApplyTest {
     }
 
     private static void pushing() {
-        DeltaSync x = new DeltaSync();
+        Counted x = new Counted();
         for (int b : new int[] {-1, 256, Integer.MIN_VALUE, Integer.MAX_VALUE}) {
             Due.due("push(" + b + ")", x.push(b), false);
         }
@@ -163,7 +163,7 @@ public final class ApplyTest {
     }
 
     private static void keeping() {
-        DeltaSync x = new DeltaSync();
+        Counted x = new Counted();
         Due.due("keep(0) of none", x.keep(0), true);
         Due.due("keep(1) of none", x.keep(1), false);
         Due.deltaOf(x, 0, 2, 8, 9);
@@ -182,7 +182,7 @@ public final class ApplyTest {
     }
 
     private static void comparing() {
-        DeltaSync x = new DeltaSync();
+        Counted x = new Counted();
         Due.due("empty ones", x.same(), true);
         Due.file(x, 1, 1, 2, 3);
         Due.due("another length", x.same(), false);

@@ -12,7 +12,7 @@ public final class FilesTest {
     }
 
     private static void newObject() {
-        DeltaSync x = new DeltaSync();
+        Counted x = new Counted();
         for (int which = 0; which < 4; which++) {
             Due.dueBytes("new", x, which);
         }
@@ -31,7 +31,7 @@ public final class FilesTest {
 
     // No signature has the block size 16: so many bytes does a reference take.
     private static void unsignedBlocks() {
-        DeltaSync x = new DeltaSync();
+        Counted x = new Counted();
         Due.file(x, 0, Due.repeated(7, 40));
         Due.file(x, 1, Due.repeated(7, 40));
         Due.due("unsigned: delta()", x.delta(), 42);
@@ -42,7 +42,7 @@ public final class FilesTest {
     }
 
     private static void firstShape() {
-        DeltaSync x = new DeltaSync();
+        Counted x = new Counted();
         Due.file(x, 0, Due.repeated(7, 47));
         Due.due("first shape: sign()", x.sign(), 2);
         Due.due("first shape: digest(1, 7)", x.digest(1, 7), Due.md5(Due.repeated(7, 16))[7]);
@@ -50,7 +50,7 @@ public final class FilesTest {
     }
 
     private static void feeding() {
-        DeltaSync x = new DeltaSync();
+        Counted x = new Counted();
         Due.due("feed(0, 01020304)", x.feed(0, 0x01020304), 4);
         Due.due("feed(0, fffefdfc)", x.feed(0, 0xfffefdfc), 8);
         Due.due("feed(1, 80000001)", x.feed(1, 0x80000001), 4);
@@ -65,7 +65,7 @@ public final class FilesTest {
 
     private static void fullFile() {
         for (int file = 0; file < 2; file++) {
-            DeltaSync x = new DeltaSync();
+            Counted x = new Counted();
             for (int i = 1; i <= 500; i++) {
                 Due.due("feed no. " + i, x.feed(file, i), 4 * i);
             }
@@ -83,7 +83,7 @@ public final class FilesTest {
     }
 
     private static void cutting() {
-        DeltaSync x = new DeltaSync();
+        Counted x = new Counted();
         Due.file(x, 0, 1, 2, 3, 4, 5);
         Due.file(x, 1, 6, 7);
         Due.due("cut(0, 6)", x.cut(0, 6), false);
@@ -105,7 +105,7 @@ public final class FilesTest {
     }
 
     private static void putting() {
-        DeltaSync x = new DeltaSync();
+        Counted x = new Counted();
         Due.due("put into none", x.put(0, 0, 0), false);
         Due.file(x, 0, 1, 2, 3);
         Due.file(x, 1, 4, 5, 6);
@@ -125,7 +125,7 @@ public final class FilesTest {
     }
 
     private static void readingWrongly() {
-        DeltaSync x = new DeltaSync();
+        Counted x = new Counted();
         for (int which = 0; which < 2; which++) {
             Due.file(x, which, 1, 2, 3, 4);
         }
@@ -145,7 +145,7 @@ public final class FilesTest {
     }
 
     private static void sums() {
-        DeltaSync x = new DeltaSync();
+        Counted x = new Counted();
         Due.file(x, 0, 1, 2, 3, 255);
         Due.file(x, 1, 5);
         Due.due("sumAt(0, 0, 1)", x.sumAt(0, 0, 1), 65537);
@@ -162,7 +162,8 @@ public final class FilesTest {
         for (int[] w : wrong) {
             Due.due("sumAt(" + w[0] + ", " + w[1] + ", " + w[2] + ")", x.sumAt(w[0], w[1], w[2]), 0);
         }
-        Due.file(x, 0, Due.repeated(255, 2000));
+        x = new Counted();
+        Due.feed(x, 0, Due.repeated(255, 2000));
         long a = 255L * 2000 % 65536;
         long b = 255L * (2000L * 2001 / 2) % 65536;
         Due.due("sumAt(0, 0, 2000)", x.sumAt(0, 0, 2000), (int) (65536 * b + a));

@@ -2,14 +2,16 @@ import java.util.Random;
 
 /** All promises: long runs of random calls, each answer compared with the model's. */
 public final class RandomRunsTest {
-    private static final int RUNS = 600, CALLS = 512;
+    private static final int RUNS = 2000;
+    // One turn makes so many calls at most.
+    private static final int MOST_AT_ONCE = 12;
     private static final int[] WILD = {
         -1, -2, 0, 1, 2, 3, 4, 15, 16, 17, 255, 256, 257, 1999, 2000, 2001, 5999, 6000, 6001, 8000,
         65535, 65536, 1 << 24, Integer.MAX_VALUE, Integer.MAX_VALUE - 1, Integer.MIN_VALUE, Integer.MIN_VALUE + 1
     };
 
     private final Random random;
-    private final DeltaSync x = new DeltaSync();
+    private final Counted x = new Counted();
     private final Model model = new Model();
     private final int letters;
     private final int wildness;
@@ -29,15 +31,17 @@ public final class RandomRunsTest {
         Due.end("RandomRunsTest");
     }
 
+    // The calls that are left behind the run read what it made.
     private void play(int run) {
-        for (int call = 0; call < CALLS; call++) {
+        int kept = MOST_AT_ONCE + random.nextInt(200);
+        for (int call = 0; x.left() >= kept; call++) {
             int kind = call < feeds && random.nextInt(8) != 0 ? 0 : random.nextInt(22);
             ask("run " + run + ", call " + call + ", ", kind);
         }
-        for (int which = 0; which < 4; which++) {
-            for (int i = -1; i <= model.size(which); i++) {
-                Due.due("run " + run + ": at(" + which + ", " + i + ")", x.at(which, i), model.at(which, i));
-            }
+        while (x.left() > 0) {
+            int which = random.nextInt(4);
+            int i = random.nextInt(model.size(which) + 1);
+            Due.due("run " + run + ": at(" + which + ", " + i + ")", x.at(which, i), model.at(which, i));
         }
     }
 
@@ -101,7 +105,8 @@ public final class RandomRunsTest {
                 break;
             case 7:
                 Due.due(where + "delta()", x.delta(), model.delta());
-                for (int i = 0; i < model.size(2); i++) {
+                for (int many = 0; many < MOST_AT_ONCE - 1; many++) {
+                    int i = many < 5 ? many : random.nextInt(model.size(2) + 1);
                     Due.due(where + "at(2, " + i + ")", x.at(2, i), model.at(2, i));
                 }
                 break;

@@ -9,7 +9,7 @@ public final class SignatureTest {
     }
 
     private static void shapes() {
-        DeltaSync x = new DeltaSync();
+        Counted x = new Counted();
         Due.file(x, 0, Due.repeated(3, 300));
         int[][] wrong = {
             {0, 8}, {257, 8}, {-1, 8}, {16, 0}, {16, 17}, {16, -1}, {Integer.MIN_VALUE, 1}, {Integer.MAX_VALUE, 1},
@@ -31,18 +31,13 @@ public final class SignatureTest {
     }
 
     private static void blocksOfAllSizes() {
-        int[] all = new int[700];
-        for (int i = 0; i < all.length; i++) {
-            all[i] = (i * i * 31 + i * 7) & 255;
-        }
+        int[] all = Due.mixed(700);
         for (int size = 1; size <= 256; size++) {
-            DeltaSync x = new DeltaSync();
-            Due.file(x, 0, all);
             int width = 1 + size % 16;
-            x.shape(size, width);
-            Due.due("sign()", x.sign(), 700 / size);
+            Counted x = signed(all, size, width);
             for (int block = 0; block < 700 / size; block++) {
-                dueBlock(x, block, java.util.Arrays.copyOfRange(all, block * size, block * size + size), width);
+                x = x.left() < 30 ? signed(all, size, width) : x;
+                dueBlock(x, block, Due.part(all, block * size, size), width);
             }
             for (int block : new int[] {700 / size, -1, Integer.MIN_VALUE, Integer.MAX_VALUE}) {
                 Due.due("sum(" + block + ")", x.sum(block), 0);
@@ -51,14 +46,16 @@ public final class SignatureTest {
         }
     }
 
-    private static void dueBlock(DeltaSync x, int block, int[] bytes, int width) {
-        long a = 0;
-        long b = 0;
-        for (int i = 0; i < bytes.length; i++) {
-            a += bytes[i];
-            b += (long) (bytes.length - i) * bytes[i];
-        }
-        Due.due("sum(" + block + ")", x.sum(block), (int) (65536 * (b % 65536) + a % 65536));
+    private static Counted signed(int[] old, int size, int width) {
+        Counted x = new Counted();
+        Due.feed(x, 0, old);
+        x.shape(size, width);
+        Due.due("sign()", x.sign(), old.length / size);
+        return x;
+    }
+
+    private static void dueBlock(Counted x, int block, int[] bytes, int width) {
+        Due.due("sum(" + block + ")", x.sum(block), Due.sumOf(bytes));
         int[] digest = Due.md5(bytes);
         for (int k = 0; k < width; k++) {
             Due.due("digest(" + block + ", " + k + ")", x.digest(block, k), digest[k]);
@@ -70,7 +67,7 @@ public final class SignatureTest {
 
     // Later files and shapes leave the signature alone until it is made again.
     private static void asItWasMade() {
-        DeltaSync x = new DeltaSync();
+        Counted x = new Counted();
         Due.file(x, 0, Due.bytes("abcdabcdxx"));
         x.shape(4, 3);
         Due.due("sign()", x.sign(), 2);
@@ -94,22 +91,31 @@ public final class SignatureTest {
     }
 
     private static void wholeFiles() {
-        DeltaSync x = new DeltaSync();
         int[] lengths = {0, 1, 3, 54, 55, 56, 57, 63, 64, 65, 119, 120, 121, 127, 128, 129, 1000, 1999, 2000};
         for (int n : lengths) {
             int[] all = new int[n];
             for (int i = 0; i < n; i++) {
                 all[i] = (255 - i * 13) & 255;
             }
-            Due.file(x, n & 1, all);
-            int[] want = Due.md5(all);
-            for (int k = 0; k < 16; k++) {
-                Due.due("md5 of " + n + ", byte " + k, x.md5(n & 1, k), want[k]);
-            }
+            dueDigest(n & 1, all);
         }
+        Counted x = new Counted();
         int[][] wrong = {{2, 0}, {3, 0}, {-1, 0}, {0, 16}, {0, -1}, {1, Integer.MAX_VALUE}, {1, Integer.MIN_VALUE}};
         for (int[] w : wrong) {
             Due.due("md5(" + w[0] + ", " + w[1] + ")", x.md5(w[0], w[1]), DeltaSync.NONE);
+        }
+    }
+
+    private static void dueDigest(int file, int[] all) {
+        int[] want = Due.md5(all);
+        Counted x = new Counted();
+        Due.feed(x, file, all);
+        for (int k = 0; k < 16; k++) {
+            if (x.left() == 0) {
+                x = new Counted();
+                Due.feed(x, file, all);
+            }
+            Due.due("md5 of " + all.length + ", byte " + k, x.md5(file, k), want[k]);
         }
     }
 }
