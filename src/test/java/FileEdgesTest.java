@@ -304,7 +304,8 @@ public final class FileEdgesTest {
         int[][] rows = {{255, 128, 0}, fresh, {1, 0, 0, 1, 0, 3, 127, 200, 1}, fresh};
         for (int which = 0; which < 4; which++) {
             int w = which;
-            Due.edge("11: the first to the last byte, 0 .. 255, of " + w, () -> Due.dueBytes("row", fourRows(), w, rows[w]));
+            Due.edge("11: the first to the last byte, 0 .. 255, of " + w, () ->
+                Due.dueBytes("row", fourRows(), w, rows[w]));
             Due.edge("11: NONE: no such byte of " + w, () -> {
                 Counted x = fourRows();
                 int n = rows[w].length;
